@@ -2,8 +2,9 @@ import java.util.Random;
 
 /** Runs of calls drawn from fixed seeds: TramRibbon must answer each as the Model does. */
 public final class ModelTest {
-    private static final int RUNS = 1500;
-    private static final int CALLS = 512;
+    private static final int RUNS = 2000;
+    /** With a digest behind each call these are 510: an object is used for at most 512. */
+    private static final int CALLS = 255;
     private static final int[] ODD = {Integer.MIN_VALUE, -1000, -4, -1, 0, 1, 3, 4, 9, 10, 15, 16, 17, 60, 61, 99, 100, 150, 151, 200, 201, Integer.MAX_VALUE};
     private static final String[] NAMES = {"build", "setSlope", "cut", "setBound", "depot", "come", "put", "pole",
         "sectionOf", "section", "car", "pass", "count", "next", "needs", "advise", "foresee", "mean", "digest"};
