@@ -6,7 +6,7 @@ import java.lang.reflect.Modifier;
 import java.util.Set;
 import java.util.TreeSet;
 
-/** The public face: every member that the document names, with its exceptions, and no other. */
+/** The public face: every member that the document names, with its exceptions, and no other (LANGUAGE.md, rule 1). */
 public final class FaceTest {
     private static final String[] FACE = {
         "TramRibbon()",
@@ -32,34 +32,68 @@ public final class FaceTest {
     };
 
     public static void main(String[] args) {
+        Set<String> names = checkMembers();
+        checkFields();
+        checkTheClass();
+        checkNoPrivateNamesake(TramRibbon.class, names);
+        for (Class<?> inside : TramRibbon.class.getDeclaredClasses()) {
+            checkInside(inside);
+            checkNoPrivateNamesake(inside, names);
+        }
+        Check.end("FaceTest");
+    }
+
+    /** The tests stand in the same package as the class: they would find a member that is not public, too. */
+    private static Set<String> checkMembers() {
         Set<String> due = new TreeSet<>(Set.of(FACE));
         Set<String> found = new TreeSet<>();
         Set<String> names = new TreeSet<>();
         for (Constructor<?> c : TramRibbon.class.getDeclaredConstructors()) {
             found.add("TramRibbon" + tail(c));
+            Check.due("the constructor is public, and nothing else", c.getModifiers(), Modifier.PUBLIC);
         }
         for (Method m : TramRibbon.class.getDeclaredMethods()) {
             if (!Modifier.isPrivate(m.getModifiers()) && !m.isSynthetic()) {
                 found.add(m.getReturnType() + " " + m.getName() + tail(m));
                 names.add(m.getName());
+                Check.due(m.getName() + " is public, and nothing else", m.getModifiers(), Modifier.PUBLIC);
             }
         }
         if (!found.equals(due)) {
             Check.fault("the face is " + found + ", due is " + due);
         }
-        for (Method m : TramRibbon.class.getDeclaredMethods()) {
-            if (Modifier.isPrivate(m.getModifiers()) && names.contains(m.getName())) {
-                Check.fault("a private method bears the name of a public one: " + m.getName());
-            }
-        }
+        return names;
+    }
+
+    private static void checkFields() {
         for (Field f : TramRibbon.class.getDeclaredFields()) {
             if (!Modifier.isPrivate(f.getModifiers()) && !f.isSynthetic()) {
                 Check.fault("a field that is not private: " + f.getName());
             }
         }
-        int kind = TramRibbon.class.getModifiers();
-        Check.due("the class is public and final", kind & (Modifier.PUBLIC | Modifier.FINAL), Modifier.PUBLIC | Modifier.FINAL);
-        Check.end("FaceTest");
+    }
+
+    private static void checkTheClass() {
+        Class<?> face = TramRibbon.class;
+        Check.due("the class is public and final", face.getModifiers(), Modifier.PUBLIC | Modifier.FINAL);
+        Check.dueText("the class with its package", face.getName(), "TramRibbon");
+        Check.dueText("the class above it", face.getSuperclass().getName(), "java.lang.Object");
+        Check.due("interfaces that it has", face.getInterfaces().length, 0);
+    }
+
+    private static void checkInside(Class<?> inside) {
+        int kind = inside.getModifiers();
+        if (Modifier.isPublic(kind) || Modifier.isProtected(kind) || !Modifier.isStatic(kind)) {
+            Check.fault("a class inside that is not private or package-visible and static: " + inside.getName());
+        }
+    }
+
+    private static void checkNoPrivateNamesake(Class<?> in, Set<String> names) {
+        for (Method m : in.getDeclaredMethods()) {
+            if (Modifier.isPrivate(m.getModifiers()) && names.contains(m.getName())) {
+                Check.fault("a private method bears the name of a public one: " + in.getName() + "." + m.getName());
+            }
+        }
     }
 
     private static String tail(Executable e) {
